@@ -17,6 +17,7 @@ public final class PromisesTest {
         promise3Wanted();
         promise3Idle();
         promise3IdleRounding();
+        promise3IdleFull();
         promise3BoundAndRamp();
         promise3AirAndFuel();
         promise4Torque();
@@ -68,6 +69,8 @@ public final class PromisesTest {
         try {
             return rows.period(speed);
         } catch (ArithmeticException e) {
+            // The machine's own division must never be what throws.
+            Due.isTrue("11 thrown by the program", !"/ by zero".equals(e.getMessage()));
             return Long.MIN_VALUE;
         }
     }
@@ -303,7 +306,7 @@ public final class PromisesTest {
         idleStep(rows, 400, 200, 2000);
         idleStep(rows, 800, 125, 2000);
         idleStep(rows, 900, 100, 1900);
-        // Above 200 with e below 0 or 0 below 0 with e above 0 do not hold the store.
+        // Exactly 0 is not below 0: the store still shrinks.
         idleStep(rows, 1275, 0, 1425);
         idleStep(rows, 1500, 0, 1425);
         rows.step(0, 0, 0);
@@ -343,6 +346,20 @@ public final class PromisesTest {
         above.idle(3000);
         idleStep(above, 2196, 200, 0);
         idleStep(above, 2197, 200, 803);
+    }
+
+    /** The store at the most that it can ever be: e = 1 goes in while o is 200, and no more at 201. */
+    private static void promise3IdleFull() {
+        TorqueRows rows = new TorqueRows();
+        rows.idle(801);
+        for (int n = 0; n < 100 && rows.value(4) < 3212; n++) {
+            long e = Math.min(800, (3215 - rows.value(4)) / 4);
+            rows.step(0, 0, 801 - e);
+        }
+        Due.is("3 the fullest store", rows.value(4), 3212);
+        idleStep(rows, 800, 200, 3212);
+        idleStep(rows, 801, 200, 3212);
+        idleStep(rows, 802, 200, 3211);
     }
 
     private static void promise3BoundAndRamp() {
@@ -688,6 +705,14 @@ public final class PromisesTest {
         most.sensor(2, 1);
         most.step(0, 0, 0);
         Due.is("14 at a speed that is kept", most.split(600, 1), 0);
+        TorqueRows last = new TorqueRows();
+        last.table(COST, 7, 7, 700);
+        last.step(0, 0, 10000);
+        // 700 with no motor, 62 + 426, 150 + 153, and then 262 with nothing to pay for the 746 left.
+        shares(last, 896, 746, 150, 262);
+        shares(last, 1000, 750, 250, 562);
+        shares(last, 779, 779, 0, 60);
+        shares(last, 780, 730, 50, 62);
         Due.is("14 wish -1", rows.split(-1, 0), -2);
         Due.is("14 wish 1001", rows.split(1001, 0), -2);
         Due.is("14 wish wider than an int", rows.split(1L << 32, 0), -2);
@@ -711,6 +736,10 @@ public final class PromisesTest {
         inner.table(COST, 1, 0, 226);
         // 50 costs 62 + 88, 100 costs 150 + 0, no motor 176.
         shares(inner, 100, 50, 50, 150);
+        TorqueRows near = new TorqueRows();
+        near.table(COST, 1, 0, 160);
+        shares(near, 51, 51, 0, 63);
+        shares(near, 52, 2, 50, 64);
     }
 
     private static void promise15Limp() {
