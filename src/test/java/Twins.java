@@ -66,7 +66,7 @@ final class Twins {
         return rows;
     }
 
-    /** No part of the state is left as it was at first; TORQUE has just fallen, from 120 to 50. */
+    /** Most parts of the state differ from those of a new object; TORQUE has just fallen, from 120 to 50. */
     private static void makeBusy(TorqueRows rows) {
         for (int kind = 0; kind < 5; kind++) {
             for (int x = 0; x < 8; x++) {
