@@ -1,62 +1,7 @@
 /** Each promise of the document by its number: ordinary inputs, the named edges, wrong inputs. */
 public final class PromisesTest {
-    private static final int PEDAL = 0;
-    private static final int LIMP = 1;
-    private static final int AIR = 2;
-    private static final int FUEL = 3;
-    private static final int COST = 4;
-
-    public static void main(String[] args) {
-        promise1NewObject();
-        promise2Table();
-        promise2ValueBetweenPlaces();
-        promise3Refusals();
-        promise3SpeedAndTracks();
-        promise3DifferentTracks();
-        promise3Modes();
-        promise3Wanted();
-        promise3Idle();
-        promise3IdleRounding();
-        promise3IdleFull();
-        promise3BoundAndRamp();
-        promise3AirAndFuel();
-        promise4Torque();
-        promise5Value();
-        promise6Wish();
-        promise6WishesByRanks();
-        promise7Bound();
-        promise8Monitor();
-        promise8Stops();
-        promise9Sensor();
-        promise10Cylinder();
-        promise11Period();
-        promise12Idle();
-        promise13Sum();
-        promise14Split();
-        promise14SplitTies();
-        promise15Limp();
-        promise15BeginsAtZero();
-        Due.end();
-    }
-
-    private static TorqueRows flat(int kind, long v) {
-        TorqueRows rows = new TorqueRows();
-        fill(rows, kind, v);
-        return rows;
-    }
-
-    private static void fill(TorqueRows rows, int kind, long v) {
-        for (int x = 0; x < 8; x++) {
-            for (int y = 0; y < 8; y++) {
-                rows.table(kind, x, y, v);
-            }
-        }
-    }
-
-    private static void steps(TorqueRows rows, int times, long pedal, long other, long speed) {
-        for (int n = 0; n < times; n++) {
-            rows.step(pedal, other, speed);
-        }
+    public static void main(String[] args) throws Exception {
+        Cases.run(PromisesTest.class);
     }
 
     private static void values(String when, TorqueRows rows, long... want) {
@@ -65,24 +10,14 @@ public final class PromisesTest {
         }
     }
 
-    private static long periodOrThrow(TorqueRows rows, long speed) {
-        try {
-            return rows.period(speed);
-        } catch (ArithmeticException e) {
-            // The machine's own division must never be what throws.
-            Due.isTrue("11 thrown by the program", !"/ by zero".equals(e.getMessage()));
-            return Long.MIN_VALUE;
-        }
-    }
-
-    private static void promise1NewObject() {
+    static void promise1NewObject() {
         TorqueRows rows = new TorqueRows();
         Due.is("1 torque", rows.torque(), 0);
         values("1", rows, 0, 0, 0, 0, 0, 0, 0, 0);
         for (int what = 0; what < 4; what++) {
             Due.is("1 sum " + what, rows.sum(what), 0);
         }
-        Due.is("1 four cylinders", periodOrThrow(rows, 1), 30000000);
+        Due.is("1 four cylinders", Desk.periodOrThrow(rows, 1), 30000000);
         Due.is("1 the first bound", rows.bound(1000), 1000);
         Due.is("1 the first idle", rows.idle(800), 800);
         for (int which = 0; which < 3; which++) {
@@ -102,17 +37,13 @@ public final class PromisesTest {
         Due.is("1 objects share no bound", other.bound(0), 1000);
     }
 
-    private static void promise2Table() {
+    static void promise2Table() {
         TorqueRows rows = new TorqueRows();
-        for (int kind = 0; kind < 5; kind++) {
-            for (int place = 0; place < 64; place++) {
-                rows.table(kind, place / 8, place % 8, kind * 64 + place);
-            }
+        for (int n = 0; n < 320; n += 2) {
+            rows.table(n / 64, n / 8 % 8, n % 8, n + 1);
         }
-        for (int kind = 0; kind < 5; kind++) {
-            for (int place = 0; place < 64; place++) {
-                Due.is("2 what it was", rows.table(kind, place / 8, place % 8, 1000), kind * 64 + place);
-            }
+        for (int n = 0; n < 320; n++) {
+            Due.is("2 what it was", rows.table(n / 64, n / 8 % 8, n % 8, 1000), n % 2 == 0 ? n + 1 : 0);
         }
         Due.is("2 kind -1", rows.table(-1, 0, 0, 0), -1);
         Due.is("2 kind 5", rows.table(5, 0, 0, 0), -1);
@@ -136,12 +67,12 @@ public final class PromisesTest {
         Due.is("2 the value at (" + pedal + ", " + speed + ")", rows.value(1), want);
     }
 
-    private static void promise2ValueBetweenPlaces() {
+    static void promise2ValueBetweenPlaces() {
         TorqueRows rows = new TorqueRows();
-        rows.table(PEDAL, 1, 1, 100);
-        rows.table(PEDAL, 2, 1, 200);
-        rows.table(PEDAL, 1, 2, 400);
-        rows.table(PEDAL, 2, 2, 1000);
+        rows.table(Desk.PEDAL, 1, 1, 100);
+        rows.table(Desk.PEDAL, 2, 1, 200);
+        rows.table(Desk.PEDAL, 1, 2, 400);
+        rows.table(Desk.PEDAL, 2, 2, 1000);
         wantedAt(rows, 128, 1000, 100);
         wantedAt(rows, 256, 1000, 200);
         wantedAt(rows, 128, 2000, 400);
@@ -155,9 +86,9 @@ public final class PromisesTest {
         wantedAt(rows, 256, 2001, 999);
         wantedAt(rows, 384, 2000, 0);
         TorqueRows ends = new TorqueRows();
-        ends.table(PEDAL, 7, 7, 1000);
-        ends.table(PEDAL, 7, 6, 500);
-        ends.table(PEDAL, 6, 7, 128);
+        ends.table(Desk.PEDAL, 7, 7, 1000);
+        ends.table(Desk.PEDAL, 7, 6, 500);
+        ends.table(Desk.PEDAL, 6, 7, 128);
         wantedAt(ends, 896, 7000, 1000);
         wantedAt(ends, 897, 7001, 1000);
         wantedAt(ends, 1000, 10000, 1000);
@@ -165,12 +96,12 @@ public final class PromisesTest {
         wantedAt(ends, 896, 6999, 999);
         wantedAt(ends, 1000, 6000, 500);
         wantedAt(ends, 768, 9999, 128);
-        TorqueRows most = flat(PEDAL, 1000);
+        TorqueRows most = Desk.flat(Desk.PEDAL, 1000);
         wantedAt(most, 77, 3333, 1000);
     }
 
-    private static void promise3Refusals() {
-        TorqueRows rows = flat(PEDAL, 500);
+    static void promise3Refusals() {
+        TorqueRows rows = Desk.flat(Desk.PEDAL, 500);
         rows.wish(1, 9);
         rows.step(100, 100, 1000);
         rows.wish(2, 9);
@@ -195,7 +126,7 @@ public final class PromisesTest {
         Due.is("3 the greatest numbers", edges.step(1000, 1000, 10000), 0);
     }
 
-    private static void promise3SpeedAndTracks() {
+    static void promise3SpeedAndTracks() {
         TorqueRows rows = new TorqueRows();
         rows.sensor(2, 1);
         Due.is("3 a lost speed is 0 in the first step", rows.step(5, 5, 4000), 3);
@@ -224,7 +155,7 @@ public final class PromisesTest {
         Due.is("3 the speed is taken in mode 4", rows.value(7), 50);
     }
 
-    private static void promise3DifferentTracks() {
+    static void promise3DifferentTracks() {
         TorqueRows rows = new TorqueRows();
         Due.is("3 50 apart", rows.step(100, 150, 900), 0);
         Due.is("3 51 apart", rows.step(100, 151, 900), 1);
@@ -234,11 +165,11 @@ public final class PromisesTest {
         rows.step(0, 1000, 900);
         Due.is("3 a lost track is not different", rows.value(5), 0);
         rows.sensor(0, 0);
-        steps(rows, 4, 0, 1000, 900);
+        Desk.steps(rows, 4, 0, 1000, 900);
         Due.is("3 four different", rows.value(5), 4);
         rows.step(0, 50, 900);
         Due.is("3 then alike", rows.value(5), 0);
-        steps(rows, 4, 0, 1000, 900);
+        Desk.steps(rows, 4, 0, 1000, 900);
         Due.is("3 the fifth stops at once", rows.step(1000, 70, 900), 4);
         Due.is("3 five different", rows.value(5), 5);
         Due.is("3 no pedal when stopped", rows.value(0), 0);
@@ -248,12 +179,12 @@ public final class PromisesTest {
         Due.is("3 and counts from 0", rows.value(5), 0);
         Due.is("3 stopped for the watch", rows.monitor(0), -3);
         TorqueRows standing = new TorqueRows();
-        steps(standing, 4, 0, 51, 0);
+        Desk.steps(standing, 4, 0, 51, 0);
         Due.is("3 counted while standing", standing.value(5), 4);
         Due.is("3 stops before standing", standing.step(0, 51, 0), 4);
     }
 
-    private static void promise3Modes() {
+    static void promise3Modes() {
         TorqueRows rows = new TorqueRows();
         Due.is("3 mode 0", rows.step(9, 9, 1), 0);
         Due.is("3 mode 1", rows.step(9, 99, 1), 1);
@@ -267,9 +198,9 @@ public final class PromisesTest {
         Due.is("3 value(6)", rows.value(6), 4);
     }
 
-    private static void promise3Wanted() {
-        TorqueRows rows = flat(PEDAL, 333);
-        fill(rows, LIMP, 77);
+    static void promise3Wanted() {
+        TorqueRows rows = Desk.flat(Desk.PEDAL, 333);
+        Desk.fill(rows, Desk.LIMP, 77);
         rows.step(200, 200, 1000);
         Due.is("3 wanted in 0", rows.value(1), 333);
         rows.step(200, 251, 1000);
@@ -295,7 +226,7 @@ public final class PromisesTest {
         Due.is("3 idle stored at " + speed, rows.value(4), stored);
     }
 
-    private static void promise3Idle() {
+    static void promise3Idle() {
         TorqueRows rows = new TorqueRows();
         idleStep(rows, 400, 100, 400);
         idleStep(rows, 400, 125, 800);
@@ -325,13 +256,13 @@ public final class PromisesTest {
         TorqueRows different = new TorqueRows();
         Due.is("3 idle in 1", different.step(0, 51, 400), 1);
         Due.is("3 idle wanted in 1", different.value(1), 100);
-        TorqueRows wished = flat(PEDAL, 90);
+        TorqueRows wished = Desk.flat(Desk.PEDAL, 90);
         wished.wish(4, 20);
         idleStep(wished, 750, 20, 50);
         idleStep(wished, 750, 90, 100);
     }
 
-    private static void promise3IdleRounding() {
+    static void promise3IdleRounding() {
         TorqueRows rows = new TorqueRows();
         // -4 / 16 is -1 towards smaller ones, so the store stays; towards 0 it would be -1.
         idleStep(rows, 801, 0, 0);
@@ -349,7 +280,7 @@ public final class PromisesTest {
     }
 
     /** The store at the most that it can ever be: e = 1 goes in while o is 200, and no more at 201. */
-    private static void promise3IdleFull() {
+    static void promise3IdleFull() {
         TorqueRows rows = new TorqueRows();
         rows.idle(801);
         for (int n = 0; n < 100 && rows.value(4) < 3212; n++) {
@@ -362,22 +293,22 @@ public final class PromisesTest {
         idleStep(rows, 802, 200, 3211);
     }
 
-    private static void promise3BoundAndRamp() {
-        TorqueRows rows = flat(PEDAL, 130);
+    static void promise3BoundAndRamp() {
+        TorqueRows rows = Desk.flat(Desk.PEDAL, 130);
         long[] up = {40, 80, 120, 130, 130};
         for (long want : up) {
             rows.step(10, 10, 1000);
             Due.is("3 up", rows.torque(), want);
         }
-        fill(rows, PEDAL, 90);
+        Desk.fill(rows, Desk.PEDAL, 90);
         rows.step(10, 10, 1000);
         Due.is("3 a little down", rows.torque(), 90);
-        fill(rows, PEDAL, 9);
+        Desk.fill(rows, Desk.PEDAL, 9);
         rows.step(10, 10, 1000);
         Due.is("3 at most 80 down", rows.torque(), 10);
         rows.step(10, 10, 1000);
         Due.is("3 to the end", rows.torque(), 9);
-        TorqueRows bounded = flat(PEDAL, 500);
+        TorqueRows bounded = Desk.flat(Desk.PEDAL, 500);
         bounded.bound(30);
         bounded.wish(5, 700);
         bounded.step(10, 10, 1000);
@@ -387,31 +318,31 @@ public final class PromisesTest {
         bounded.step(0, 0, 100);
         Due.is("3 the idle too", bounded.value(1), 0);
         Due.is("3 while it is stored", bounded.value(4), 700);
-        TorqueRows fallen = flat(PEDAL, 1000);
-        steps(fallen, 10, 10, 10, 1000);
+        TorqueRows fallen = Desk.flat(Desk.PEDAL, 1000);
+        Desk.steps(fallen, 10, 10, 10, 1000);
         Due.is("3 400 up", fallen.torque(), 400);
         fallen.step(10, 10, 0);
         Due.is("3 no ramp in 3", fallen.torque(), 0);
-        steps(fallen, 10, 10, 10, 1000);
+        Desk.steps(fallen, 10, 10, 10, 1000);
         fallen.sensor(0, 1);
         fallen.sensor(1, 1);
         fallen.step(10, 10, 1000);
         Due.is("3 no ramp in 4", fallen.torque(), 0);
     }
 
-    private static void promise3AirAndFuel() {
-        TorqueRows rows = flat(PEDAL, 500);
-        rows.table(AIR, 0, 1, 128);
-        rows.table(AIR, 1, 1, 256);
-        rows.table(FUEL, 1, 1, 100);
-        rows.table(FUEL, 2, 1, 228);
+    static void promise3AirAndFuel() {
+        TorqueRows rows = Desk.flat(Desk.PEDAL, 500);
+        rows.table(Desk.AIR, 0, 1, 128);
+        rows.table(Desk.AIR, 1, 1, 256);
+        rows.table(Desk.FUEL, 1, 1, 100);
+        rows.table(Desk.FUEL, 2, 1, 228);
         rows.step(100, 100, 1000);
         Due.is("3 air at the torque", rows.value(2), 168);
         Due.is("3 fuel at the air", rows.value(3), 140);
         rows.step(100, 100, 0);
         Due.is("3 no fuel in 3", rows.value(3), 0);
-        fill(rows, AIR, 300);
-        fill(rows, FUEL, 50);
+        Desk.fill(rows, Desk.AIR, 300);
+        Desk.fill(rows, Desk.FUEL, 50);
         rows.step(100, 100, 0);
         Due.is("3 no fuel in 3 from a full table", rows.value(3), 0);
         Due.is("3 air in 3", rows.value(2), 300);
@@ -420,7 +351,7 @@ public final class PromisesTest {
         rows.step(100, 100, 1000);
         Due.is("3 no fuel in 4", rows.value(3), 0);
         Due.is("3 air in 4", rows.value(2), 300);
-        TorqueRows cut = flat(FUEL, 50);
+        TorqueRows cut = Desk.flat(Desk.FUEL, 50);
         cut.step(0, 0, 1500);
         Due.is("3 fuel at 1500", cut.value(3), 50);
         cut.step(0, 0, 1501);
@@ -432,8 +363,8 @@ public final class PromisesTest {
         Due.is("3 fuel with a torque", cut.value(3), 50);
     }
 
-    private static void promise4Torque() {
-        TorqueRows rows = flat(PEDAL, 1000);
+    static void promise4Torque() {
+        TorqueRows rows = Desk.flat(Desk.PEDAL, 1000);
         for (long want = 40; want <= 1000; want += 40) {
             rows.step(500, 500, 3000);
             Due.is("4 torque", rows.torque(), want);
@@ -443,10 +374,10 @@ public final class PromisesTest {
         Due.is("4 no more than wanted", rows.torque(), 1000);
     }
 
-    private static void promise5Value() {
-        TorqueRows rows = flat(PEDAL, 610);
-        fill(rows, AIR, 20);
-        fill(rows, FUEL, 30);
+    static void promise5Value() {
+        TorqueRows rows = Desk.flat(Desk.PEDAL, 610);
+        Desk.fill(rows, Desk.AIR, 20);
+        Desk.fill(rows, Desk.FUEL, 30);
         rows.step(90, 900, 2500);
         values("5", rows, 90, 305, 20, 30, 0, 1, 1, 2500);
         rows.step(0, 0, 700);
@@ -457,7 +388,7 @@ public final class PromisesTest {
         Due.is("5 what most", rows.value(Integer.MAX_VALUE), -2);
     }
 
-    private static void promise6Wish() {
+    static void promise6Wish() {
         TorqueRows rows = new TorqueRows();
         Due.is("6 rank 0", rows.wish(0, 5), -1);
         Due.is("6 rank 6", rows.wish(6, 5), -1);
@@ -478,7 +409,7 @@ public final class PromisesTest {
     }
 
     private static void wished(long want, int... ranksAndTorques) {
-        TorqueRows rows = flat(PEDAL, 300);
+        TorqueRows rows = Desk.flat(Desk.PEDAL, 300);
         for (int n = 0; n < ranksAndTorques.length; n += 2) {
             rows.wish(ranksAndTorques[n], ranksAndTorques[n + 1]);
         }
@@ -488,7 +419,7 @@ public final class PromisesTest {
         Due.is("6 a wish counts once", rows.value(1), 300);
     }
 
-    private static void promise6WishesByRanks() {
+    static void promise6WishesByRanks() {
         wished(300);
         wished(400, 1, 400);
         wished(400, 3, 400);
@@ -508,14 +439,14 @@ public final class PromisesTest {
         wished(100, 2, 100, 1, 700);
         wished(250, 1, 900, 2, 50, 3, 400, 4, 250, 5, 10);
         wished(310, 5, 310, 4, 10, 3, 500, 2, 20, 1, 600);
-        TorqueRows kept = flat(PEDAL, 300);
+        TorqueRows kept = Desk.flat(Desk.PEDAL, 300);
         kept.wish(2, 100);
         kept.step(-1, 0, 0);
         kept.step(100, 100, 1000);
         Due.is("6 a wish outlives a refused step", kept.value(1), 100);
     }
 
-    private static void promise7Bound() {
+    static void promise7Bound() {
         TorqueRows rows = new TorqueRows();
         Due.is("7 to 0", rows.bound(0), 1000);
         Due.is("7 to 1000", rows.bound(1000), 0);
@@ -527,19 +458,19 @@ public final class PromisesTest {
         Due.is("7 refusals change nothing", rows.bound(5), 5);
     }
 
-    private static void promise8Monitor() {
+    static void promise8Monitor() {
         TorqueRows rows = new TorqueRows();
         Due.is("8 30 at first", rows.monitor(30), 0);
         Due.is("8 31 at first", rows.monitor(31), 1);
         Due.is("8 any number", rows.monitor(Long.MAX_VALUE), 2);
         Due.is("8 the least number", rows.monitor(Long.MIN_VALUE), 0);
-        fill(rows, PEDAL, 100);
-        steps(rows, 3, 10, 10, 1000);
+        Desk.fill(rows, Desk.PEDAL, 100);
+        Desk.steps(rows, 3, 10, 10, 1000);
         Due.is("8 not over wanted", rows.monitor(130), 0);
         Due.is("8 over wanted", rows.monitor(131), 1);
         rows.step(10, 10, 1000);
         Due.is("8 a step does not end it", rows.monitor(131), 2);
-        fill(rows, PEDAL, 10);
+        Desk.fill(rows, Desk.PEDAL, 10);
         rows.step(10, 10, 1000);
         Due.is("8 torque came down", rows.torque(), 20);
         Due.is("8 not over the torque before", rows.monitor(100), 0);
@@ -547,7 +478,7 @@ public final class PromisesTest {
         rows.step(10, 10, 1000);
         Due.is("8 the torque before is that of the last step", rows.monitor(41), 2);
         Due.is("8 and wanted counts", rows.monitor(40), 0);
-        fill(rows, PEDAL, 900);
+        Desk.fill(rows, Desk.PEDAL, 900);
         rows.bound(50);
         rows.step(10, 10, 1000);
         Due.is("8 wanted is the bounded one", rows.monitor(81), 1);
@@ -556,7 +487,7 @@ public final class PromisesTest {
         Due.is("8 a refused step leaves the torque before", rows.monitor(81), 1);
     }
 
-    private static void promise8Stops() {
+    static void promise8Stops() {
         TorqueRows rows = new TorqueRows();
         for (int n = 1; n <= 7; n++) {
             Due.is("8 one behind the other", rows.monitor(500), n);
@@ -577,7 +508,7 @@ public final class PromisesTest {
         Due.is("8 mode 4 alone is not stopped", lost.monitor(500), 1);
     }
 
-    private static void promise9Sensor() {
+    static void promise9Sensor() {
         TorqueRows rows = new TorqueRows();
         for (int which = 0; which < 3; which++) {
             Due.is("9 was good", rows.sensor(which, 1), 0);
@@ -596,36 +527,36 @@ public final class PromisesTest {
         Due.is("9 the others are their own", rows.sensor(0, 0), 0);
     }
 
-    private static void promise10Cylinder() {
+    static void promise10Cylinder() {
         TorqueRows rows = new TorqueRows();
         for (int n = 1; n <= 12; n++) {
             Due.is("10 so many", rows.cylinder(n), 1);
-            Due.is("10 period", periodOrThrow(rows, 1), 120000000L / n);
+            Due.is("10 period", Desk.periodOrThrow(rows, 1), 120000000L / n);
         }
         int[] none = {0, 13, -1, Integer.MIN_VALUE, Integer.MAX_VALUE};
         for (int n : none) {
             Due.is("10 not so many", rows.cylinder(n), 0);
-            Due.is("10 nothing changes", periodOrThrow(rows, 1), 10000000);
+            Due.is("10 nothing changes", Desk.periodOrThrow(rows, 1), 10000000);
         }
     }
 
-    private static void promise11Period() {
+    static void promise11Period() {
         TorqueRows rows = new TorqueRows();
-        Due.is("11 at 10000", periodOrThrow(rows, 10000), 3000);
-        Due.is("11 at 7", periodOrThrow(rows, 7), 4285714);
-        Due.is("11 at 9999", periodOrThrow(rows, 9999), 3000);
-        Due.is("11 at 0 throws", periodOrThrow(rows, 0), Long.MIN_VALUE);
-        Due.is("11 -1", periodOrThrow(rows, -1), -2);
-        Due.is("11 10001", periodOrThrow(rows, 10001), -2);
-        Due.is("11 most", periodOrThrow(rows, Long.MAX_VALUE), -2);
+        Due.is("11 at 10000", Desk.periodOrThrow(rows, 10000), 3000);
+        Due.is("11 at 7", Desk.periodOrThrow(rows, 7), 4285714);
+        Due.is("11 at 9999", Desk.periodOrThrow(rows, 9999), 3000);
+        Due.is("11 at 0 throws", Desk.periodOrThrow(rows, 0), Desk.THROWN);
+        Due.is("11 -1", Desk.periodOrThrow(rows, -1), -2);
+        Due.is("11 10001", Desk.periodOrThrow(rows, 10001), -2);
+        Due.is("11 most", Desk.periodOrThrow(rows, Long.MAX_VALUE), -2);
         // Four times this is 0 in a long: it must be refused, not divided by.
-        Due.is("11 wraps to 0", periodOrThrow(rows, 1L << 62), -2);
-        Due.is("11 least", periodOrThrow(rows, Long.MIN_VALUE), -2);
+        Due.is("11 wraps to 0", Desk.periodOrThrow(rows, 1L << 62), -2);
+        Due.is("11 least", Desk.periodOrThrow(rows, Long.MIN_VALUE), -2);
         rows.cylinder(11);
-        Due.is("11 towards 0", periodOrThrow(rows, 9973), 1093);
+        Due.is("11 towards 0", Desk.periodOrThrow(rows, 9973), 1093);
     }
 
-    private static void promise12Idle() {
+    static void promise12Idle() {
         TorqueRows rows = new TorqueRows();
         Due.is("12 to 0", rows.idle(0), 800);
         Due.is("12 to 3000", rows.idle(3000), 0);
@@ -643,9 +574,9 @@ public final class PromisesTest {
         }
     }
 
-    private static void promise13Sum() {
-        TorqueRows rows = flat(PEDAL, 1000);
-        fill(rows, FUEL, 11);
+    static void promise13Sum() {
+        TorqueRows rows = Desk.flat(Desk.PEDAL, 1000);
+        Desk.fill(rows, Desk.FUEL, 11);
         rows.step(9, 9, 1000);
         sums("one", rows, 1, 40000, 11, 0);
         rows.step(9, 9, 10000);
@@ -665,8 +596,8 @@ public final class PromisesTest {
         sums("standing on a lost speed", rows, 6, 840000, 22, 2);
         Due.is("13 what -1", rows.sum(-1), -2);
         Due.is("13 what 4", rows.sum(4), -2);
-        TorqueRows large = flat(PEDAL, 1000);
-        steps(large, 425, 9, 9, 10000);
+        TorqueRows large = Desk.flat(Desk.PEDAL, 1000);
+        Desk.steps(large, 425, 9, 9, 10000);
         Due.is("13 sums wider than an int", large.sum(1), 4130000000L);
     }
 
@@ -676,10 +607,10 @@ public final class PromisesTest {
         Due.is("14 cost of " + wish, rows.split(wish, 2), cost);
     }
 
-    private static void promise14Split() {
+    static void promise14Split() {
         TorqueRows rows = new TorqueRows();
         for (int x = 1; x < 8; x++) {
-            rows.table(COST, x, 0, 1000);
+            rows.table(Desk.COST, x, 0, 1000);
         }
         shares(rows, 0, 0, 0, 0);
         shares(rows, 7, 7, 0, 54);
@@ -695,9 +626,9 @@ public final class PromisesTest {
         shares(rows, 400, 400, 0, 1000);
         shares(rows, 1000, 1000, 0, 1000);
         TorqueRows most = new TorqueRows();
-        most.table(COST, 4, 0, 1000);
-        most.table(COST, 5, 0, 1000);
-        most.table(COST, 3, 0, 1000);
+        most.table(Desk.COST, 4, 0, 1000);
+        most.table(Desk.COST, 5, 0, 1000);
+        most.table(Desk.COST, 3, 0, 1000);
         // The greatest motor that can ever pay: 400 costs 1200, and a table's value is 1000 at most.
         shares(most, 600, 250, 350, 962);
         most.step(0, 0, 1000);
@@ -706,7 +637,7 @@ public final class PromisesTest {
         most.step(0, 0, 0);
         Due.is("14 at a speed that is kept", most.split(600, 1), 0);
         TorqueRows last = new TorqueRows();
-        last.table(COST, 7, 7, 700);
+        last.table(Desk.COST, 7, 7, 700);
         last.step(0, 0, 10000);
         // 700 with no motor, 62 + 426, 150 + 153, and then 262 with nothing to pay for the 746 left.
         shares(last, 896, 746, 150, 262);
@@ -720,29 +651,29 @@ public final class PromisesTest {
         Due.is("14 i 3", rows.split(5, 3), -2);
     }
 
-    private static void promise14SplitTies() {
-        TorqueRows rows = flat(COST, 62);
-        rows.table(COST, 0, 0, 0);
-        rows.table(COST, 1, 0, 128);
+    static void promise14SplitTies() {
+        TorqueRows rows = Desk.flat(Desk.COST, 62);
+        rows.table(Desk.COST, 0, 0, 0);
+        rows.table(Desk.COST, 1, 0, 128);
         // 62 for the motor's 50 alone; without it 50 at 50 torques.
         shares(rows, 50, 50, 0, 50);
         TorqueRows tie = new TorqueRows();
-        tie.table(COST, 1, 0, 159);
+        tie.table(Desk.COST, 1, 0, 159);
         // 50 torques cost 62 at this table, as the motor's 50 do: the lesser motor is taken.
         shares(tie, 50, 50, 0, 62);
-        tie.table(COST, 1, 0, 162);
+        tie.table(Desk.COST, 1, 0, 162);
         shares(tie, 50, 0, 50, 62);
         TorqueRows inner = new TorqueRows();
-        inner.table(COST, 1, 0, 226);
+        inner.table(Desk.COST, 1, 0, 226);
         // 50 costs 62 + 88, 100 costs 150 + 0, no motor 176.
         shares(inner, 100, 50, 50, 150);
         TorqueRows near = new TorqueRows();
-        near.table(COST, 1, 0, 160);
+        near.table(Desk.COST, 1, 0, 160);
         shares(near, 51, 51, 0, 63);
         shares(near, 52, 2, 50, 64);
     }
 
-    private static void promise15Limp() {
+    static void promise15Limp() {
         TorqueRows rows = new TorqueRows();
         Due.is("15 was off", rows.limp(false), 0);
         Due.is("15 on", rows.limp(true), 1);
@@ -759,15 +690,15 @@ public final class PromisesTest {
         Due.is("15 nor then", rows.monitor(0), -3);
         Due.is("15 off starts", rows.limp(false), 1);
         Due.is("15 it drives", rows.step(5, 5, 100), 0);
-        steps(rows, 5, 0, 500, 100);
+        Desk.steps(rows, 5, 0, 500, 100);
         Due.is("15 off when it was off, but stopped", rows.limp(false), 1);
         Due.is("15 off when nothing was", rows.limp(false), 0);
         Due.is("15 different again", rows.step(0, 500, 100), 1);
     }
 
-    private static void promise15BeginsAtZero() {
+    static void promise15BeginsAtZero() {
         TorqueRows rows = new TorqueRows();
-        steps(rows, 4, 0, 500, 100);
+        Desk.steps(rows, 4, 0, 500, 100);
         for (int n = 0; n < 7; n++) {
             rows.monitor(5000);
         }
@@ -776,7 +707,7 @@ public final class PromisesTest {
         Due.is("15 different begins at 0", rows.step(0, 500, 100), 1);
         Due.is("15 different is 1", rows.value(5), 1);
         Due.is("15 too much begins at 0", rows.monitor(5000), 1);
-        steps(rows, 3, 0, 500, 100);
+        Desk.steps(rows, 3, 0, 500, 100);
         rows.limp(true);
         Due.is("15 on keeps the different", rows.step(0, 500, 100), 4);
         rows.limp(false);

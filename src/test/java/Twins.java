@@ -44,7 +44,7 @@ final class Twins {
         }
     }
 
-    private static TorqueRows made(State state) {
+    static TorqueRows made(State state) {
         TorqueRows rows = new TorqueRows();
         if (state == State.FRESH) {
             return rows;
